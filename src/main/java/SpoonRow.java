@@ -966,35 +966,36 @@ public final class SpoonRow {
         }
 
         private void readLine() {
-            if (tokens.isWord("wakes")) {
-                takeOnce(WAKES_LINE);
-                readExpr(0);
-            } else if (tokens.isWord("never")) {
-                readNever();
+            int kind = kindOfWord();
+            if (kind == DOG) {
+                readDog();
+            } else if (kind != NONE) {
+                readPerson(kind);
             } else if (tokens.isWord("bolster")) {
                 readBolster();
-            } else if (!readSleeperLine() && !readSingleLine()) {
-                refuse(OUT_OF_PLACE);
+            } else if (tokens.isWord("never")) {
+                readNever();
+            } else if (tokens.isWord("wakes")) {
+                takeOnce(WAKES_LINE);
+                readExpr(0);
+            } else {
+                readSetting();
             }
             takeSign(';');
         }
 
-        private boolean readSleeperLine() {
+        private int kindOfWord() {
             if (tokens.isWord("sleeper")) {
-                readPerson(SLEEPER);
+                return SLEEPER;
             } else if (tokens.isWord("child")) {
-                readPerson(CHILD);
+                return CHILD;
             } else if (tokens.isWord("snorer")) {
-                readPerson(SNORER);
-            } else if (tokens.isWord("dog")) {
-                readDog();
-            } else {
-                return false;
+                return SNORER;
             }
-            return true;
+            return tokens.isWord("dog") ? DOG : NONE;
         }
 
-        private boolean readSingleLine() {
+        private void readSetting() {
             if (tokens.isWord("bed")) {
                 takeOnce(BED_LINE);
                 into.wide = takeNumber(1, 99);
@@ -1006,9 +1007,8 @@ public final class SpoonRow {
                 takeOnce(AWAKE_LINE);
                 into.awake = takeNumber(0, 60);
             } else {
-                return false;
+                refuse(OUT_OF_PLACE);
             }
-            return true;
         }
 
         private void takeOnce(int line) {
@@ -1075,24 +1075,25 @@ public final class SpoonRow {
             into.bolsters |= 1 << takeNumber(1, LAST_PLACE);
         }
 
+        private void refuseUntold() {
+            if (tokens.isNumberWithin(into.sleepers, MOST_SLEEPERS - 1)) {
+                refuse(UNKNOWN);
+            }
+        }
+
         private void readNever() {
             if (into.nevers >= MOST_NEVERS) {
                 refuse(TOO_MUCH);
             }
             tokens.advance();
-            int one = takeToldSleeper();
+            refuseUntold();
+            int one = takeNumber(0, MOST_SLEEPERS - 1);
+            refuseUntold();
             boolean isTold = tokens.isNumberWithin(0, into.sleepers - 1);
             if (isTold && (tokens.number() == one || into.isNever(one, tokens.number()))) {
                 refuse(NEVER_AGAIN);
             }
-            into.addNever(one, takeToldSleeper());
-        }
-
-        private int takeToldSleeper() {
-            if (tokens.isNumberWithin(into.sleepers, MOST_SLEEPERS - 1)) {
-                refuse(UNKNOWN);
-            }
-            return takeNumber(0, MOST_SLEEPERS - 1);
+            into.addNever(one, takeNumber(0, MOST_SLEEPERS - 1));
         }
 
         // Each of the loops below takes a token a round, and there are no more of them than bytes.
