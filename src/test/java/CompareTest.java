@@ -6,7 +6,9 @@ import java.util.function.IntSupplier;
 /** Many runs of calls drawn by a seed, each call answered by the class and by the model. */
 final class CompareTest {
     private static final int RUNS = 700;
-    private static final int DEAR_RUNS = 40;
+    private static final int DEAR_RUNS = 300;
+    private static final int ACT_RUNS = 60;
+    private static final int TEXTS = 40000;
     private static final String[] VALUES = {"light", "off", "turns", "hour", "snore", "edge", "woken"};
     private static final String[] TOKENS = {"sleeper", "child", "snorer", "dog", "bed", "night", "awake",
         "bolster", "never", "wakes", "or", "and", "not", "light", "off", "turns", "woken", "foo", "x",
@@ -31,8 +33,11 @@ final class CompareTest {
         for (int i = 0; i < DEAR_RUNS; i++) {
             new CompareTest(1000000 + i).oneRun(25, true);
         }
-        for (int i = 0; i < 30000; i++) {
+        for (int i = 0; i < TEXTS; i++) {
             new CompareTest(2000000 + i).oneText();
+        }
+        for (int i = 0; i < ACT_RUNS; i++) {
+            new CompareTest(3000000 + i).oneRunOfActs();
         }
     }
 
@@ -48,6 +53,16 @@ final class CompareTest {
             } else {
                 call(isDear);
             }
+        }
+    }
+
+    /** So many acts that the oldest ones are dropped, and so many undone that none is left. */
+    private void oneRunOfActs() {
+        tell(text(7));
+        for (int i = 0; i < 400; i++) {
+            int kind = below(i % 200 < 120 ? 5 : 8);
+            act(kind > 5 && below(3) > 0 ? 5 : kind);
+            ask(below(10) == 0 ? 18 : 8);
         }
     }
 
@@ -157,6 +172,9 @@ final class CompareTest {
             int kind = below(5);
             if (kind == 0) {
                 spoiled.setLength(at);
+            } else if (kind == 1 && below(2) == 0) {
+                List<String> lines = List.of(spoiled.toString().split(";"));
+                spoiled.append(lines.get(below(lines.size()))).append(";");
             } else if (kind == 1) {
                 spoiled.delete(at, Math.min(spoiled.length(), at + 1 + below(6)));
             } else {
