@@ -62,6 +62,18 @@ final class BestTest {
         Check.due("none", none.order(), -1);
         kept(none, 1, 0, 2);
         Check.due("nobody", new SpoonRow().order(), 0);
+        theLastOrderOfSix();
+    }
+
+    /** Who lies as far from the edge as he is light sleeps on, so that only 5 4 3 2 1 0 wakes nobody. */
+    private static void theLastOrderOfSix() {
+        SpoonRow row = Check.told("bed 1 1;night 5;wakes not light = edge;sleeper 5 5 0 1 0 0;"
+                + "sleeper 9 9 1 1 0 0;sleeper 9 9 2 1 0 0;sleeper 9 9 3 1 0 0;sleeper 9 9 4 1 0 0;"
+                + "sleeper 9 9 5 1 0 0;");
+        Check.due("as it is", row.night(1), 5);
+        Check.due("orders", row.orders(), 720);
+        Check.due("order", row.order(), 0);
+        kept(row, 5, 4, 3, 2, 1, 0);
     }
 
     private static void orderLeavesAllElse() {
@@ -154,6 +166,9 @@ final class BestTest {
         Check.due("1, 2, 0", row.bolsters(0), 4);
         Check.due("free", Check.told(THREE.replace("bed 9", "bed 10")).bolsters(0), 0);
         Check.due("nobody", new SpoonRow().bolsters(0), 0);
+        SpoonRow two = Check.told("bed 1 1;night 9;sleeper 5 5 0 1 0 0;sleeper 99 99 1 1 0 0;");
+        Check.due("two", two.bolsters(0), 2);
+        Check.due("two", two.bolsters(1), 0);
         SpoonRow one = Check.told("bed 1 1;night 90;sleeper 5 5 5 5 0 0;bolster 1;");
         Check.due("one", one.bolsters(0), 0);
         Check.due("one", one.bolsters(1), 0);
@@ -215,6 +230,10 @@ final class BestTest {
         Check.due("like ones, NEVER not asked", like.edge(), 4);
         kept(like, 2, 0, 1);
         SpoonRow child = Check.told("child 9 9 9 1 0 10;dog 1;sleeper 9 9 9 1 0 1;");
+        SpoonRow six = Check.told("sleeper 9 9 9 1 0 6;sleeper 9 9 9 1 0 5;sleeper 9 9 9 1 0 4;"
+                + "sleeper 9 9 9 1 0 3;sleeper 9 9 9 1 0 2;sleeper 9 9 9 1 0 1;");
+        Check.due("the last order of six", six.edge(), 5 + 2 * 4 + 3 * 3 + 4 * 2 + 5);
+        kept(six, 5, 4, 3, 2, 1, 0);
         Check.due("a child goes, too", child.edge(), 0);
         kept(child, 1, 2, 0);
         Check.due("nobody", new SpoonRow().edge(), 0);

@@ -217,6 +217,11 @@ final class TextTest {
         Check.fault("wakes 1 12345;", 1, 8);
         Check.fault("wakes foo;", 3, 6);
         Check.fault("wakes sleeper;", 3, 6);
+        Check.fault("wakes az;", 3, 6);
+        Check.fault("wakes z;", 3, 6);
+        Check.fault("wakes `;", 1, 6);
+        Check.fault("wakes {;", 1, 6);
+        Check.fault("wakes :;", 1, 6);
         Check.fault("wakes or 1;", 3, 6);
         Check.fault("wakes 1 and and 1;", 3, 12);
         Check.fault("wakes 1 + not 1;", 3, 10);
