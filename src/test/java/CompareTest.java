@@ -36,6 +36,7 @@ final class CompareTest {
         for (int i = 0; i < TEXTS; i++) {
             new CompareTest(2000000 + i).oneText();
         }
+        new CompareTest(4000000).oneExtremeRun();
         for (int i = 0; i < ACT_RUNS; i++) {
             new CompareTest(3000000 + i).oneRunOfActs();
         }
@@ -63,6 +64,53 @@ final class CompareTest {
             int kind = below(i % 200 < 120 ? 5 : 8);
             act(kind > 5 && below(3) > 0 ? 5 : kind);
             ask(below(10) == 0 ? 18 : 8);
+        }
+    }
+
+    /** Every call with numbers far out of all bounds, and with some at them. */
+    private void oneExtremeRun() {
+        tell("sleeper 9 8 7 6 5 4;dog 1;child 3 4 5 6 7 8;");
+        int[] ends = {Integer.MIN_VALUE, -65, -1, 0, 1, 2, 3, 6, 7, 31, 32, 64, 601, 1 << 30, Integer.MAX_VALUE};
+        for (int a : ends) {
+            same("bed " + a, () -> row.bed(a), () -> model.bed(a));
+            tell("sleeper 9 8 7 6 5 4;dog 1;child 3 4 5 6 7 8;");
+            askOfOne(a);
+            for (int b : ends) {
+                askOfTwo(a, b);
+                for (int c : ends) {
+                    same("lies " + a + " " + b + " " + c, () -> row.lies(a, b, c), () -> model.lies(a, b, c));
+                    same("see " + a + " " + b + " " + c, () -> row.see(a, b, c), () -> model.see(a, b, c));
+                    same("forget", row::forget, model::forget);
+                    int n = b > 1 && b <= 40 ? 1 : b;
+                    same("year " + a + " " + n + " " + c, () -> row.year(a, n, c), () -> model.year(a, n, c));
+                }
+            }
+        }
+    }
+
+    private void askOfOne(int a) {
+        count(a);
+        same("side " + a, () -> row.side(a), () -> model.side(a));
+        same("night " + a, () -> row.night(a), () -> model.night(a));
+        same("kept " + a, () -> row.kept(a), () -> model.kept(a));
+        same("bolsters " + a, () -> row.bolsters(a), () -> model.bolsters(a));
+        same("free " + a, () -> row.free(a), () -> model.free(a));
+        same("outs " + a, () -> row.outs(a), () -> model.outs(a));
+        same("fits " + a, () -> row.fits(a), () -> model.fits(a));
+        same("without " + a, () -> row.without(a), () -> model.without(a));
+    }
+
+    private void askOfTwo(int a, int b) {
+        same("sleeper " + a + " " + b, () -> row.sleeper(a, b), () -> model.sleeper(a, b));
+        same("swap " + a + " " + b, () -> bit(row.swap(a, b)), () -> bit(model.swap(a, b)));
+        same("word " + a + " " + b, () -> row.word(a, b), () -> model.word(a, b));
+        same("bolster " + a, () -> bit(row.bolster(a, b > 0)), () -> bit(model.bolster(a, b > 0)));
+        same("out " + a + " " + b, () -> row.out(a, b), () -> model.out(a, b));
+        same("woken " + a + " " + b, () -> row.woken(a, b), () -> model.woken(a, b));
+        same("turn " + a + " " + b, () -> row.turn(a, b), () -> model.turn(a, b));
+        same("fair " + a + " " + b, () -> row.fair(a, b), () -> model.fair(a, b));
+        if (a < 2 || b < 0) {
+            same("every " + a + " " + b, () -> row.every(a, b), () -> model.every(a, b));
         }
     }
 
