@@ -833,6 +833,7 @@ public final class SpoonRow {
         private static final int BLANK = 4;
         private static final int BAD = 5;
         private static final int MOST_DIGITS = 4;
+        private static final int LARGEST = 9999;
         private static final int TOO_LONG = 10000;
 
         private Row text;
@@ -1075,8 +1076,9 @@ public final class SpoonRow {
             into.bolsters |= 1 << takeNumber(1, LAST_PLACE);
         }
 
+        // The document tells no range for the number of a SLEEPER: what isn't told ahead is unknown.
         private void refuseUntold() {
-            if (tokens.isNumberWithin(into.sleepers, MOST_SLEEPERS - 1)) {
+            if (tokens.isNumberWithin(into.sleepers, Tokens.LARGEST)) {
                 refuse(UNKNOWN);
             }
         }
@@ -1087,13 +1089,13 @@ public final class SpoonRow {
             }
             tokens.advance();
             refuseUntold();
-            int one = takeNumber(0, MOST_SLEEPERS - 1);
+            int one = takeNumber(0, Tokens.LARGEST);
             refuseUntold();
             boolean isTold = tokens.isNumberWithin(0, into.sleepers - 1);
             if (isTold && (tokens.number() == one || into.isNever(one, tokens.number()))) {
                 refuse(NEVER_AGAIN);
             }
-            into.addNever(one, takeNumber(0, MOST_SLEEPERS - 1));
+            into.addNever(one, takeNumber(0, Tokens.LARGEST));
         }
 
         // Each of the loops below takes a token a round, and there are no more of them than bytes.
@@ -1177,7 +1179,7 @@ public final class SpoonRow {
             } else if (tokens.kind == Tokens.WORD) {
                 readValue();
             } else {
-                into.rule.add(takeNumber(0, 9999));
+                into.rule.add(takeNumber(0, Tokens.LARGEST));
             }
         }
 

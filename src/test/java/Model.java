@@ -317,7 +317,7 @@ final class Model {
         }
 
         private int known() {
-            int number = look(0, 6);
+            int number = look(0, 9999);
             if (number >= told.people.size()) {
                 fail(3);
             }

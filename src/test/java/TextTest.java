@@ -252,7 +252,24 @@ final class TextTest {
         Check.fault("dog 1;never 0 1;dog 1;", 3, 14);
         Check.fault("dog 1;never 1 0;", 3, 12);
         Check.fault("dog 1;dog 1;never 0 6;", 3, 20);
+        Check.fault("dog 1;dog 1;never 0 2;", 3, 20);
+        Check.fault("dog 1;dog 1;never 2 0;", 3, 18);
+        Check.fault("dog 1;dog 1;never 0 7;", 3, 20);
+        Check.fault("dog 1;dog 1;never 7 0;", 3, 18);
+        Check.fault("dog 1;dog 1;never 0 9 50", 3, 20);
+        Check.fault("dog 1;dog 1;never 9999 0;", 3, 18);
+        Check.fault("dog 1;dog 1;never 0 9999;", 3, 20);
+        Check.fault("dog 1;dog 1;never 0 0009;", 3, 20);
+        Check.fault("dog 1;dog 1;never 7 7;", 3, 18);
+        Check.fault("dog 1;".repeat(7) + "never 6 7;", 3, 50);
+        Check.fault("dog 1;".repeat(7) + "never 7 6;", 3, 48);
         Check.fault("dog 1;never 12345 0;", 2, 12);
+        Check.fault("dog 1;never 0 12345;", 2, 14);
+        Check.fault("dog 1;dog 1;never 00000 1;", 2, 18);
+        Check.fault("dog 1;dog 1;never 0 00001;", 2, 20);
+        Check.told("dog 1;dog 1;never 0000 0001;");
+        Check.fault("dog 1;never x 0;", 1, 12);
+        Check.fault("dog 1;dog 1;never 0 x;", 1, 20);
         Check.fault("dog 1;dog 1;never 0 0;", 4, 20);
         Check.fault("dog 1;dog 1;never 0 1;never 0 1;", 4, 30);
         Check.fault("dog 1;dog 1;never 0 1;never 1 0;", 4, 30);
@@ -268,9 +285,6 @@ final class TextTest {
     private static void leastFaultFirst() {
         Check.fault("night 0;night 0;", 2, 6);
         Check.fault("bolster 1;bolster 7;", 2, 18);
-        // SLEEPERS are told as 0, 1 .. at most 7 of them, so that a 7 is too much ahead of unknown.
-        Check.fault("dog 1;dog 1;never 0 7;", 2, 20);
-        Check.fault("dog 1;dog 1;never 9999 0;", 2, 18);
         Check.fault("never 0 0;", 3, 6);
     }
 
