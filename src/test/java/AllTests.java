@@ -13,6 +13,12 @@ public final class AllTests {
         NightTest.run();
         BestTest.run();
         YearTest.run();
+        TextBoundsTest.run();
+        RuleBoundsTest.run();
+        ActBoundsTest.run();
+        NightBoundsTest.run();
+        QuestionBoundsTest.run();
+        RefusedTest.run();
         RoomTest.run();
         CompareTest.run();
         if (!Check.close()) {
