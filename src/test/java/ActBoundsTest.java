@@ -23,7 +23,9 @@ final class ActBoundsTest {
         fortyActs();
         fortyOneActs();
         actsUndoneAndDoneAgain();
+        eachActUndone();
         noAct();
+        actsAndBed();
         seenInMinutes();
         eightSeen();
         noneSeen();
@@ -297,6 +299,63 @@ final class ActBoundsTest {
         }
         Check.due("none", row.undo(), -1);
         Check.due("every", row.count(9), 6);
+    }
+
+    // "They are UNDONE, the last one first.": one of each kind, at the least and the largest PLACES
+    private static void eachActUndone() {
+        SpoonRow row = Check.told("bolster 1;" + SEVEN);
+        row.swap(0, 6);
+        row.side(1);
+        row.bolster(6, true);
+        row.bolster(1, false);
+        row.out(5, 600);
+        row.word(5, 240);
+        row.swap(6, 5);
+        Check.due("undone swap", row.undo(), 6);
+        Check.due("place", row.sleeper(0, 7), 6);
+        Check.due("place", row.sleeper(5, 7), 5);
+        Check.due("undone word", row.undo(), 5);
+        Check.due("every", row.count(9), 0);
+        Check.due("by nobody", row.count(8), -1);
+        Check.due("undone out", row.undo(), 4);
+        Check.due("OUT", row.sleeper(5, 5), 0);
+        Check.due("bits", row.count(5), 64);
+        Check.due("undone bolster, taken", row.undo(), 3);
+        Check.due("bits", row.count(5), 66);
+        Check.due("undone bolster, put", row.undo(), 2);
+        Check.due("bits", row.count(5), 2);
+        Check.due("FIRST", row.count(7), 1);
+        Check.due("undone side", row.undo(), 1);
+        Check.due("FIRST", row.count(7), 0);
+        Check.due("place", row.sleeper(6, 7), 0);
+        Check.due("undone swap", row.undo(), 0);
+        Check.due("place", row.sleeper(6, 7), 6);
+        Check.due("place", row.sleeper(0, 7), 0);
+    }
+
+    // "ACTS, THE WORD, what is SEEN, rows that are kept, the image are gone, FIRST is left"
+    private static void actsAndBed() {
+        SpoonRow row = Check.told("dog 1;sleeper 9 9 0 1 0 0;");
+        row.swap(0, 1);
+        row.side(1);
+        row.word(1, 5);
+        row.out(1, 5);
+        row.bolster(6, true);
+        row.see(1, 5, 1);
+        row.order();
+        row.image();
+        Check.due("the same text", Check.tell(row, "dog 1;sleeper 9 9 0 1 0 0;"), 0);
+        Check.due("they lie as at first", row.sleeper(0, 7), 0);
+        Check.due("FIRST is left", row.count(7), 0);
+        Check.due("THE WORD is nobody's", row.count(8), -1);
+        Check.due("OUT as told", row.sleeper(1, 5), 0);
+        Check.due("BOLSTERS as told", row.count(5), 0);
+        Check.due("no ACTS", row.count(11), 0);
+        Check.due("none to undo", row.undo(), -1);
+        Check.due("nothing SEEN", row.count(12), 0);
+        Check.due("nothing to forget", row.forget(), -1);
+        Check.throwing("no row is kept", NoSuchElementException.class, () -> row.kept(0));
+        Check.due("no image", row.restore(), false);
     }
 
     // "NONE: there is none."

@@ -35,6 +35,7 @@ final class NightBoundsTest {
         longestNight();
         turnsUpToTold();
         turnsBeyondTold();
+        turnsOneByOne();
         turnsThatAreNot();
         liesFromFirstToLast();
         wrongAhead();
@@ -447,6 +448,22 @@ final class NightBoundsTest {
             Check.throwing("the 1201st", NoSuchElementException.class, () -> more.turn(1200, part));
         }
         Check.throwing("the 1202nd", NoSuchElementException.class, () -> more.turn(1201, 0));
+    }
+
+    // "0 the minute, 1 who began it, 2 how many were woken by it, 3 whether it was THE WORD (1)"
+    private static void turnsOneByOne() {
+        SpoonRow row = Check.told("bed 1 0;night 20;awake 0;sleeper 9 9 9 1 5 0;sleeper 99 99 1 1 0 0;"
+                + "snorer 99 99 9 1 0 0;dog 1;child 99 99 9 1 0 0;wakes turns*2<off+light;");
+        row.word(4, 10);
+        // at 5 the first goes; turns 0, 1, 2, 3: off 1 and 2 by LIGHT 1 and 9; then 4, 3, 2 by the child
+        int[][] due = {{9, 0, 2, 0}, {10, 4, 3, 1}, {19, 0, 1, 0}, {20, 4, 2, 1}};
+        Check.due("TURNS", row.night(0), 4);
+        Check.due("woken, two by who goes", row.night(1), 2 + 2 + 3 + 1 + 2);
+        for (int i = 0; i < due.length; i++) {
+            for (int what = 0; what < 4; what++) {
+                Check.due("turn(" + i + ", " + what + ")", row.turn(i, what), due[i][what]);
+            }
+        }
     }
 
     private static void turnsThatAreNot() {

@@ -12,7 +12,9 @@ final class QuestionBoundsTest {
 
     static void run() {
         ordersFromNoneToMost();
+        ordersAsItIs();
         ordersWithNevers();
+        lastOfAllOrders();
         bestOfLikeOrders();
         bestOrderOfFew();
         noBestOrder();
@@ -66,6 +68,28 @@ final class QuestionBoundsTest {
         }
     }
 
+    // "all else as it is": not who lies where; whether it is FREE
+    private static void ordersAsItIs() {
+        SpoonRow row = Check.told("bed 1 1;night 10;" + LIGHT.repeat(6) + "never 0 1;");
+        Check.due("orders", row.orders(), 480);
+        row.swap(0, 5);
+        row.swap(1, 4);
+        Check.due("orders, wherever they lie", row.orders(), 480);
+        Check.due("not FREE", row.order(), 5);
+        SpoonRow free = Check.told("bed 7 1;night 10;" + LIGHT.repeat(6));
+        Check.due("FREE", free.order(), 0);
+        Check.due("FREE by all chances", free.every(0, 1), 0);
+        Check.due("no BOLSTER in it", free.bolsters(0), 0);
+        Check.due("fair in it", free.fair(30, 0), 0);
+        Check.due("a year in it", free.year(1, 40, 2), 40);
+        Check.due("free as it is", free.free(5), 0);
+        Check.due("FREE", free.order(), 0);
+        Check.due("others together as they were", row.free(5), 0);
+        Check.due("not FREE", row.order(), 5);
+        Check.due("fair in it", row.fair(1, 5), 0);
+        Check.due("fair in it", row.fair(1, 4), 1);
+    }
+
     // "in which none of NEVER lie beside each other (a BOLSTER between them doesn't matter)"
     private static void ordersWithNevers() {
         Check.due("two, never", Check.told("dog 1;dog 1;never 0 1;").orders(), 0);
@@ -77,6 +101,24 @@ final class QuestionBoundsTest {
                 + "never 1 2;never 1 3;never 2 3;").orders(), 0);
         Check.due("one of six", Check.told("dog 1;".repeat(6) + "never 4 5;").orders(), 480);
         Check.due("one of seven", Check.told("dog 1;".repeat(7) + "never 4 5;").orders(), -2);
+    }
+
+    // "of these that by which fewest are woken": none left out, the last of 720 and the one ahead of it neither
+    private static void lastOfAllOrders() {
+        String six = "bed 1 1;night 5;sleeper 5 5 0 1 0 5;sleeper 9 9 1 1 0 4;sleeper 9 9 2 1 0 3;"
+                + "sleeper 9 9 3 1 0 2;sleeper 9 9 4 1 0 1;sleeper 9 9 5 1 0 0;";
+        // who lies as many PLACES from the edge as his LIGHT sleeps on
+        SpoonRow last = Check.told(six + "wakes not light=edge;");
+        Check.due("the last order", last.order(), 0);
+        kept(last, 5, 4, 3, 2, 1, 0);
+        Check.due("at the edge", last.edge(), 20);
+        kept(last, 5, 4, 3, 2, 1, 0);
+        SpoonRow ahead = Check.told(six.replace("5 5 0 1 0 5", "5 5 1 1 0 4").replace("9 9 1 1 0 4", "9 9 0 1 0 5")
+                + "wakes not light=edge;");
+        Check.due("the one ahead of it", ahead.order(), 0);
+        kept(ahead, 5, 4, 3, 2, 0, 1);
+        Check.due("at the edge", ahead.edge(), 20);
+        kept(ahead, 5, 4, 3, 2, 0, 1);
     }
 
     // "of like ones the first as a row of SLEEPERS"

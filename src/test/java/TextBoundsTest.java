@@ -19,6 +19,7 @@ final class TextBoundsTest {
         bedOfNone();
         bedOfAll();
         bedOfSome();
+        allAnew();
         longestText();
         emptyTexts();
         numbersOfPeople();
@@ -55,6 +56,7 @@ final class TextBoundsTest {
         Check.due("no image", row.restore(), false);
         Check.due("no act", row.undo(), -1);
         Check.due("nothing seen", row.forget(), -1);
+        Check.due("FREE", row.count(10), 1);
     }
 
     // "IllegalArgumentException: the tape has not so many": a tape that has none
@@ -142,6 +144,33 @@ final class TextBoundsTest {
         Check.due("ends too soon, whatever is behind", row.bed(7), 1);
         Check.due("at its length", row.fault(), 7);
         Check.due("empty with a FAULT, too", row.count(13), 0);
+    }
+
+    // "The tape's first n bytes .. are a NIGHT, all anew": in the next text and in the one behind it
+    private static void allAnew() {
+        String first = "sleeper 9 8 7 6 5 4;" + "sleeper 9 9 9 9 0 9;".repeat(6)
+                + "never 0 1;never 0 6;bed 9 8;night 7;awake 6;bolster 5;wakes 0;";
+        for (int between = 0; between <= 2; between++) {
+            SpoonRow row = Check.told(first);
+            for (int i = 0; i < between; i++) {
+                Check.due("a text between", row.bed(0), 0);
+            }
+            Check.due("dogs", Check.tell(row, SEVEN), 0);
+            int[] due = {7, 20, 3, 480, 15, 0, 0};
+            for (int what = 0; what < due.length; what++) {
+                Check.due("count(" + what + ") then", row.count(what), due[what]);
+            }
+            int[] dog = {3, 0, 0, 0, 1, 0, 0, 0, 0};
+            for (int what = 0; what < dog.length; what++) {
+                Check.due("a dog's " + what, row.sleeper(0, what), dog[what]);
+            }
+            row = Check.told(first);
+            for (int i = 0; i < between; i++) {
+                Check.due("a text between", row.bed(0), 0);
+            }
+            Check.due("no rule", Check.tell(row, "bed 1 0;night 9;sleeper 9 99 0 1 0 0;sleeper 99 99 1 1 0 0;"), 0);
+            Check.due("woken without it", row.night(1), 1);
+        }
     }
 
     // "A TEXT of at most 600 bytes tells it"
@@ -349,6 +378,8 @@ final class TextBoundsTest {
             Check.fault(word + "s 1;", 1, 0);
             Check.fault(word.substring(0, word.length() - 1) + " 1;", 1, 0);
             Check.fault("x" + word + " 1;", 1, 0);
+            Check.fault("z" + word.substring(1) + " 1;", 1, 0);
+            Check.fault(word.substring(0, word.length() - 1) + "z 1;", 1, 0);
             Check.fault(word.substring(0, 1) + " " + word.substring(1), 1, 0);
             Check.fault(word.substring(0, 1).toUpperCase() + word.substring(1) + " 1;", 1, 0);
             Check.fault(word, 1, word.length());
@@ -357,6 +388,8 @@ final class TextBoundsTest {
             Check.told("wakes " + value + ";");
             Check.told("wakes(" + value + ");");
             Check.fault("wakes " + value + "s;", 3, 6);
+            Check.fault("wakes z" + value.substring(1) + ";", 3, 6);
+            Check.fault("wakes " + value.substring(0, value.length() - 1) + "z;", 3, 6);
             Check.fault("wakes " + value.substring(0, value.length() - 1) + ";", 3, 6);
             Check.fault("wakes" + value + ";", 1, 0);
             Check.fault("wakes " + value + value + ";", 3, 6);
@@ -364,6 +397,9 @@ final class TextBoundsTest {
         }
         Check.due("no blanks", Check.told("night5;bed9 8;dog1;wakes1or2and3;").count(3), 5);
         Check.fault("wakes 1or2andnot3;", 1, 10);
+        Check.fault("wakes 1 zr 2;", 1, 8);
+        Check.fault("wakes 1 znd 2;", 1, 8);
+        Check.fault("wakes zot 2;", 3, 6);
         Check.told("wakes 1or2and not3;");
     }
 
