@@ -256,6 +256,19 @@ final class RuleBoundsTest {
         woken(ends + "1;", 1, 0, 1, 1);
         woken(ends + "0;", 0, 0, 0, 0);
         woken(ends + "2;", 0, 0, 0, 0);
+        // beyond the wall and the edge nobody snores, though the first one does
+        for (int many = 2; many <= 7; many++) {
+            SpoonRow alone = Check.told("bed 1 0;night 10;snorer 99 99 0 1 0 0;" + "dog 1;".repeat(many - 2)
+                    + "sleeper 10 99 0 1 0 0;wakes snore=0;");
+            Check.due("at the wall of " + many, alone.woken(0, 0), 1);
+            alone.swap(0, many - 1);
+            Check.due("at the edge of " + many, alone.woken(0, 0), 1);
+            SpoonRow other = Check.told("bed 1 0;night 10;snorer 10 99 0 1 0 0;" + "dog 1;".repeat(many - 2)
+                    + "sleeper 99 99 0 1 0 0;wakes snore=" + (many == 2 ? 1 : 0) + ";");
+            Check.due("another at the edge of " + many, other.woken(many - 1, 0), 1);
+            other.swap(0, many - 1);
+            Check.due("another at the wall of " + many, other.woken(many - 1, 0), 1);
+        }
     }
 
     // "'edge' (how many PLACES from the last one)": none there
