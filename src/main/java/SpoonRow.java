@@ -765,7 +765,7 @@ public final class SpoonRow {
         private static final int MINUS = -14;
         private static final int TIMES = -15;
         private static final int PART = -16;
-        // Six parentheses deep, with five operations waiting in each, are 31.
+        // Five parentheses deep there are six EXPRs; with five operations waiting in each, that is 31.
         private static final int MOST_WAITING = 40;
 
         private final Row steps = new Row(MOST_BYTES);

@@ -1,6 +1,6 @@
 import java.nio.file.Path;
 
-/** Runs every test of the project; its argument is the file of the class. */
+/** Runs every test of the project; its arguments are the file of the class and README.md. */
 public final class AllTests {
     private AllTests() {
     }
@@ -20,6 +20,7 @@ public final class AllTests {
         QuestionBoundsTest.run();
         RefusedTest.run();
         RoomTest.run();
+        ReadmeTest.run(Path.of(args[1]));
         CompareTest.run();
         if (!Check.close()) {
             System.exit(1);
